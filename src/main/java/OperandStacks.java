@@ -139,7 +139,6 @@ public final class OperandStacks {
 
     /** A value is packed into a long, so that no step of a run makes an object. */
     private static final class Value {
-        static final int NULL = 0;
         static final int NUMBER = 1;
         static final int BOOLEAN = 2;
         static final int MARK = 3;
@@ -1087,7 +1086,6 @@ public final class OperandStacks {
         static final int QUITTED = 4;
 
         static final int LENGTH = 35;
-        static final int GET = 36;
         static final int PUT = 37;
         static final int EXEC = 56;
         static final int IF = 57;
