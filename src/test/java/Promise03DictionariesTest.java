@@ -34,6 +34,21 @@ public final class Promise03DictionariesTest {
         b.fails("<< (a) 1 (aaaaaaaaaaaaaaaaa) 2 (b) 3 >>", 2, ">>", "mark (a) 1 (aaaaaaaaaaaaaaaaa) 2 (b) 3");
         b.due("names met till then", b.machine.count(4), 84);
         b.leaves("<< 29 {count 0} repeat >> length", "29");
+        largest(b);
+    }
+
+    /** As many dictionaries as there may be, each as large as it may be. */
+    private static void largest(Bench b) {
+        b.fresh();
+        b.due("18 of 29 pairs", b.run("18 {<< 29 {count dup} repeat >> pop} repeat", 1000), 1);
+        for (int i = 0; i < 18; i++) {
+            b.run("clear << 29 {count dup} repeat >>");
+        }
+        b.due("dictionaries", b.machine.count(7), 20);
+        b.due("the last one's room", b.machine.dictionary(19, -1, 0), 29);
+        b.due("the last one's pairs", b.machine.dictionary(19, -2, 0), 29);
+        b.due("its last pair", b.machine.dictionary(19, 28, 3), 57);
+        b.due("the first one's last pair", b.machine.dictionary(2, 28, 3), 57);
     }
 
     private static void stack(Bench b) {
@@ -108,6 +123,9 @@ public final class Promise03DictionariesTest {
         b.leaves("/add where pop dup /sub known exch /x known", "true false");
         b.leaves("/add where pop /mul get", "--mul--");
         b.leaves("/add where pop 5 known", "false");
+        b.leaves("/print where pop dup /print known exch /nulltype known", "true false");
+        b.fails("nulltype", 5, "nulltype", "");
+        b.leaves("1 (pop) cvx pop (pop) load (print) load", "1 --pop-- --print--");
     }
 
     private static void strings(Bench b) {

@@ -31,7 +31,7 @@ public final class Promise03TokensTest {
         b.leaves("2147483647 2147483648 -2147483648 -2147483649", "2147483647 -2147483648 -2147483648 2147483647");
         b.leaves("4294967296 4294967301 00000000000000000000000012", "0 5 12");
         b.leaves("2#101 16#fF 36#Zz 8#17 08#17 10#99", "5 255 1295 15 15 99");
-        b.leaves("16#FFFFFFFF 16#100000001 2#0", "-1 1 0");
+        b.leaves("16#FFFFFFFF 16#100000001 2#0 11#aA 36#zZ", "-1 1 0 120 1295");
         String[] others = {
             "+", "-", "+-1", "1-", "1+1", "1.0", "2#", "#1", "2#2", "1#0", "0#0", "37#1", "99#1", "016#1", "+2#1",
             "-2#1", "2#1#1", "2#-1", "16#g", "1e3", "--1", "a1",
@@ -86,7 +86,23 @@ public final class Promise03TokensTest {
         b.due("rows made before the end", b.machine.count(5), 1);
         b.due("bytes made before the end", b.machine.count(6), 2);
         b.leaves("(\200\377)", "(\200\377)");
+        goneTape(b);
         b.leaves("%\200\377\n", "");
+    }
+
+    /** What an earlier run had on its tape is nothing behind the end of a later one's. */
+    private static void goneTape(Bench b) {
+        String[][] texts = {{"<<", "<"}, {"[ >>", "[ >"}, {"(a)", "(a"}, {"(\\a)", "(\\"}, {"{1}", "{1"}};
+        for (String[] text : texts) {
+            b.fresh();
+            b.run(text[0]);
+            b.due(text[1] + " behind " + text[0], b.run(text[1]), 2);
+            b.due("its error", b.error(), "1 -");
+        }
+        b.fresh();
+        b.run("123 /abc");
+        b.due("12 behind 123", b.run("12"), 0);
+        b.due("operands", b.operands(), "123 /abc 12");
     }
 
     private static void limits(Bench b) {
