@@ -87,9 +87,37 @@ final class Bench {
         due(text, operands(), operands);
     }
 
+    /** On a new object: the program comes to its end, though it met this error, and leaves these operands. */
+    void catches(String text, int error, String noted, String operands) {
+        fresh();
+        due(text + " run", run(text), 0);
+        due(text + " error", error(), error + " " + noted);
+        due(text, operands(), operands);
+    }
+
+    /** A new object with so many operands, all of them null. */
+    void withOperands(int n) {
+        fresh();
+        due(n + " operands' run", run(n + " {null} repeat"), 0);
+        due(n + " operands", machine.count(0), n);
+    }
+
+    /** On the object as it is: the program ends by this error, and leaves the operands as they are. */
+    void failsHere(String text, int error, String noted) {
+        String before = operands();
+        due(text + " run", run(text), 2);
+        due(text + " error", error(), error + " " + noted);
+        due(text + " operands", operands(), before);
+    }
+
+    /** On the object as it is: the program comes to its end. */
+    void endsHere(String text) {
+        due(text + " run", run(text), 0);
+    }
+
     String error() {
         int noted = machine.error(1);
-        return machine.error(0) + " " + (noted < 0 ? "-" : nameText(noted));
+        return machine.error(0) + " " + (noted == -1 ? "-" : noted < 0 ? "?" : nameText(noted));
     }
 
     String operands() {
@@ -129,6 +157,30 @@ final class Bench {
             bytes.append((char) machine.out(i));
         }
         return bytes.toString();
+    }
+
+    /** All that the calls tell, but for the tape, which no call tells. */
+    String all() {
+        StringBuilder all = new StringBuilder();
+        for (int which = 0; which < 8; which++) {
+            all.append(machine.count(which)).append(' ');
+        }
+        all.append(machine.error(0)).append(' ').append(machine.error(1)).append('\n').append(operands());
+        for (int i = 0; i < machine.count(5); i++) {
+            for (int what = 0; what < 4; what++) {
+                all.append(what == 0 ? '\n' : ':').append(machine.value(i, what));
+            }
+        }
+        for (int i = 0; i < machine.count(6); i++) {
+            all.append(' ').append(machine.octet(i));
+        }
+        for (int d = 0; d < machine.count(7); d++) {
+            all.append("\nroom ").append(machine.dictionary(d, -1, 0)).append(' ').append(pairs(d));
+        }
+        for (int n = 0; n < machine.count(4); n++) {
+            all.append("\n").append(nameText(n));
+        }
+        return all.append('\n').append(out()).toString();
     }
 
     private String text(int kind, int value, int executable, int length, int depth) {

@@ -17,6 +17,7 @@ public final class Promise01Test {
         system(b);
         user(b);
         apart(b);
+        empty(b);
         b.end();
     }
 
@@ -38,6 +39,24 @@ public final class Promise01Test {
         b.due("USER's pairs", b.machine.dictionary(1, -2, 0), 0);
         b.due("currentdict", b.run("currentdict countdictstack"), 0);
         b.due("USER is the last one", b.operands(), "dict1 2");
+    }
+
+    /** "the tape and OUT are empty", and so is all else that can be told */
+    private static void empty(Bench b) {
+        b.fresh();
+        b.due("no token is on the tape", b.machine.run(0), 0);
+        b.due("steps", b.machine.count(3), 0);
+        b.fresh();
+        b.due("the tape has room for 300", b.type(" ".repeat(300)) ? 1 : 0, 1);
+        b.due("and no more", b.machine.type(' ', 1) ? 1 : 0, 0);
+        b.fresh();
+        b.refusesIndex("at(0, 0)", () -> b.machine.at(0, 0));
+        b.refusesIndex("value(0, 0)", () -> b.machine.value(0, 0));
+        b.refusesIndex("octet(0)", () -> b.machine.octet(0));
+        b.refusesIndex("dictionary(1, 0, 0)", () -> b.machine.dictionary(1, 0, 0));
+        b.refusesIndex("dictionary(2, -1, 0)", () -> b.machine.dictionary(2, -1, 0));
+        b.refusesIndex("name(83, -1)", () -> b.machine.name(83, -1));
+        b.refusesIndex("out(0)", () -> b.machine.out(0));
     }
 
     private static void apart(Bench b) {

@@ -5,6 +5,8 @@ public final class Promise02Test {
         order(b);
         refused(b);
         full(b);
+        atTheEnd(b);
+        whole(b);
         b.end();
     }
 
@@ -41,6 +43,44 @@ public final class Promise02Test {
         }
         b.machine.run(10);
         b.due("nothing was typed", b.operands(), "7");
+    }
+
+    /** "False, changing nothing, when n is not 1 .. 8, or there would be more than 300": each n at each of the last places. */
+    private static void atTheEnd(Bench b) {
+        for (int typed = 291; typed <= 300; typed++) {
+            for (int n = -1; n <= 9; n++) {
+                b.fresh();
+                b.due("typed", b.type(" ".repeat(typed - 1) + "7") ? 1 : 0, 1);
+                boolean fits = n >= 1 && n <= 8 && typed + n <= 300;
+                String what = "type of " + n + " behind " + typed;
+                b.due(what, b.machine.type(0x3131313131313131L, n) ? 1 : 0, fits ? 1 : 0);
+                int room = 300 - typed - (fits ? n : 0);
+                b.due(what + " leaves so much room", b.type(" ".repeat(room)) ? 1 : 0, 1);
+                b.due(what + " leaves no more room", b.machine.type(' ', 1) ? 1 : 0, 0);
+                b.due(what + " run", b.machine.run(2), 0);
+                b.due(what + " operands", b.operands(), fits ? "7" + "1".repeat(n) : "7");
+            }
+        }
+    }
+
+    /** All 300 bytes are there, each with its 8 bits. */
+    private static void whole(Bench b) {
+        StringBuilder bytes = new StringBuilder();
+        for (int i = 0; i < 298; i++) {
+            char c = (char) (255 - i % 256);
+            bytes.append(c == '(' || c == ')' || c == '\\' ? 'x' : c);
+        }
+        b.leaves("(" + bytes + ")", "(" + bytes + ")");
+        b.fresh();
+        b.due("the sign's byte", b.machine.type(0x8000000000000028L, 8) ? 1 : 0, 1);
+        b.due("the end", b.machine.type(0x7FFFFFFFFFFFFF29L, 1) ? 1 : 0, 1);
+        b.due("run", b.machine.run(1), 0);
+        b.due("the string", b.operands(), "(\0\0\0\0\0\0\200)");
+        // A byte 0 is a byte of the tape as any other one.
+        b.fresh();
+        b.due("eight bytes 0", b.machine.type(0L, 8) ? 1 : 0, 1);
+        b.due("292 more", b.type("\0".repeat(292)) ? 1 : 0, 1);
+        b.due("it is full", b.machine.type(0L, 1) ? 1 : 0, 0);
     }
 
     private static void full(Bench b) {

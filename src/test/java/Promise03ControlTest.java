@@ -134,22 +134,15 @@ public final class Promise03ControlTest {
         b.leaves("/stop cvx stopped /x 5 def /x cvx stopped", "true 5 false");
         b.leaves("{3 {stop} repeat} stopped", "true");
         b.fails("stopped", 3, "stopped", "");
-        caught(b, "{1 0 idiv 5} stopped", "1 0 true", "7 idiv");
-        caught(b, "/nope cvx stopped", "true", "5 nope");
-        caught(b, "/add load stopped", "true", "3 add");
-        caught(b, "{{nope} stopped nope} stopped", "true true", "5 nope");
+        b.catches("{1 0 idiv 5} stopped", 7, "idiv", "1 0 true");
+        b.catches("/nope cvx stopped", 5, "nope", "true");
+        b.catches("/add load stopped", 3, "add", "true");
+        b.catches("{{nope} stopped nope} stopped", 5, "nope", "true true");
         b.fresh();
         b.due("stop", b.run("1 stop 2"), 3);
         b.due("operands", b.operands(), "1");
         b.due("no error", b.error(), "0 -");
         noRoom(b);
-    }
-
-    private static void caught(Bench b, String text, String operands, String error) {
-        b.fresh();
-        b.due(text + " run", b.run(text), 0);
-        b.due(text, b.operands(), operands);
-        b.due(text + " error", b.error(), error);
     }
 
     private static void noRoom(Bench b) {

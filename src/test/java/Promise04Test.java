@@ -10,6 +10,9 @@ public final class Promise04Test {
         b.due("what it does", b.operands(), "0 2");
         b.due("its steps", b.machine.count(3), 2);
         again(b);
+        tape(b);
+        limits(b);
+        likeNew(b);
         b.end();
     }
 
@@ -27,6 +30,70 @@ public final class Promise04Test {
         b.refusesIndex("value(0, 0)", () -> b.machine.value(0, 0));
         b.refusesIndex("octet(0)", () -> b.machine.octet(0));
         b.refusesIndex("out(0)", () -> b.machine.out(0));
+    }
+
+    /** "the tape stays": what was typed before is still there, and what comes then goes behind it. */
+    private static void tape(Bench b) {
+        b.fresh();
+        b.type("1 2");
+        b.machine.reset();
+        b.machine.reset();
+        b.type("3 4");
+        b.due("run", b.machine.run(10), 0);
+        b.due("operands", b.operands(), "1 23 4");
+        b.fresh();
+        b.type(" ".repeat(299) + "7");
+        b.machine.reset();
+        b.due("a full tape stays full", b.machine.type(' ', 1) ? 1 : 0, 0);
+        b.due("run", b.machine.run(1), 0);
+        b.due("operands", b.operands(), "7");
+        b.machine.reset();
+        b.due("an empty tape stays empty", b.machine.run(0), 0);
+        b.due("with room for 300", b.type(" ".repeat(300)) ? 1 : 0, 1);
+    }
+
+    /** Behind a reset all that was full has all its room again. */
+    private static void limits(Bench b) {
+        String[] fillers = {"200 array 200 array 200 array", "200 string 200 string 200 string", "18 {20 dict} repeat",
+            "8 {currentdict begin} repeat", "clear 60 {null} repeat", "/s 200 string def 5 {s print} repeat"};
+        for (int times = 0; times < 3; times++) {
+            for (String filler : fillers) {
+                b.fresh();
+                b.endsHere(filler);
+                b.machine.reset();
+                asAtFirst(b);
+                b.endsHere(filler);
+                b.machine.reset();
+                b.endsHere(fillers[times]);
+            }
+        }
+        b.fresh();
+        for (int turn = 0; turn < 2; turn++) {
+            for (int n = 83; n < 160; n++) {
+                b.endsHere("/" + turn + "n" + n + " pop");
+            }
+            b.due("names", b.machine.count(4), 160);
+            b.machine.reset();
+        }
+    }
+
+    /** The same programs tell the same on a new object and behind a reset. */
+    private static void likeNew(Bench b) {
+        String[] texts = {"/x 5 def x (abc) [1 {2}] << /a 1 >> 7 =", "3 array 3 string 20 dict begin nope", "{exit} stopped",
+            "200 array 200 string pop pop 1 2 /y", "{} loop"};
+        for (String text : texts) {
+            b.fresh();
+            int result = b.run(text);
+            String all = b.all();
+            b.fresh();
+            for (String before : texts) {
+                b.run(before);
+                b.machine.reset();
+                b.due(text + " behind " + before + " and a reset", b.run(text), result);
+                b.due(text + " behind " + before + " and a reset", b.all(), all);
+                b.machine.reset();
+            }
+        }
     }
 
     private static void again(Bench b) {

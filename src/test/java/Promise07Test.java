@@ -18,7 +18,35 @@ public final class Promise07Test {
         b.due("] goes to the topmost mark", b.machine.value(7, 0), 7);
         b.due("values", b.machine.count(5), 8);
         wrong(b);
+        edges(b);
         b.end();
+    }
+
+    /** Rows stand one behind the other as they were made, up to 600; one without values takes no place. */
+    private static void edges(Bench b) {
+        b.fresh();
+        b.refusesIndex("value(0, 0) at first", () -> b.machine.value(0, 0));
+        b.refusesIndex("value(0, 4) at first", () -> b.machine.value(0, 4));
+        b.run("[] {} 0 array");
+        b.refusesIndex("value(0, 0) behind empty rows", () -> b.machine.value(0, 0));
+        b.run("clear [7] pop {8 9} pop [-2147483648] pop");
+        int[] numbers = {7, 8, 9, -2147483648};
+        for (int i = 0; i < numbers.length; i++) {
+            b.due("value(" + i + ", 1)", b.machine.value(i, 1), numbers[i]);
+        }
+        b.refusesIndex("value(4, 0)", () -> b.machine.value(4, 0));
+        b.run("200 array 200 array 196 array dup 195 (xyz) 1 2 getinterval put");
+        int[] last = {6, 1, 0, 2};
+        for (int what = 0; what < 4; what++) {
+            b.due("value(599, " + what + ")", b.machine.value(599, what), last[what]);
+            b.due("value(598, " + what + ")", b.machine.value(598, what), 0);
+        }
+        b.refusesIndex("value(600, 0)", () -> b.machine.value(600, 0));
+        b.refusesArgument("value(599, 4)", () -> b.machine.value(599, 4));
+        String before = b.all();
+        b.refusesArgument("value(599, -1)", () -> b.machine.value(599, -1));
+        b.refusesIndex("value(-1, 9)", () -> b.machine.value(-1, 9));
+        b.due("a call that throws changes nothing", b.all(), before);
     }
 
     private static void wrong(Bench b) {

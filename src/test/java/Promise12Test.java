@@ -17,6 +17,7 @@ public final class Promise12Test {
         b.due("the last byte", b.machine.out(81), 255);
         errors(b);
         full(b);
+        edges(b);
         b.end();
     }
 
@@ -25,6 +26,32 @@ public final class Promise12Test {
         b.fails("print", 3, "print", "");
         b.fails("5 print", 4, "print", "5");
         b.fails("/a print", 4, "print", "/a");
+    }
+
+    private static void edges(Bench b) {
+        b.fresh();
+        b.refusesIndex("out(0)", () -> b.machine.out(0));
+        b.run("() print");
+        b.refusesIndex("out(0) behind nothing printed", () -> b.machine.out(0));
+        b.run("() =");
+        b.due("out(0)", b.machine.out(0), 10);
+        b.refusesIndex("out(1)", () -> b.machine.out(1));
+        b.run("/s 200 string def s 0 128 put s 199 255 put 4 {s print} repeat s 0 199 getinterval print");
+        b.due("bytes", b.machine.count(2), 1000);
+        b.due("out(1)", b.machine.out(1), 128);
+        b.due("out(800)", b.machine.out(800), 255);
+        b.due("out(801)", b.machine.out(801), 128);
+        b.due("out(999)", b.machine.out(999), 0);
+        String before = b.all();
+        b.refusesIndex("out(1000)", () -> b.machine.out(1000));
+        b.refusesIndex("out(-1)", () -> b.machine.out(-1));
+        b.refusesIndex("out(min)", () -> b.machine.out(Integer.MIN_VALUE));
+        b.refusesIndex("out(max)", () -> b.machine.out(Integer.MAX_VALUE));
+        b.due("a call that throws changes nothing", b.all(), before);
+        // What is written is no part of the string any more.
+        b.fresh();
+        b.run("(ab) dup print 0 99 put");
+        b.due("OUT", b.out(), "ab");
     }
 
     private static void full(Bench b) {
