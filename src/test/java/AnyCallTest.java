@@ -34,7 +34,7 @@ public final class AnyCallTest {
     }
 
     private static void anyCall(Bench b, Random random, int object) {
-        OperandStacks m = b.machine;
+        Watched m = b.machine;
         int i = edge(random);
         int j = edge(random);
         int k = edge(random);
@@ -66,7 +66,7 @@ public final class AnyCallTest {
         }
     }
 
-    private static String counts(OperandStacks m) {
+    private static String counts(Watched m) {
         StringBuilder all = new StringBuilder();
         for (int which = 0; which < 8; which++) {
             all.append(m.count(which)).append(' ');

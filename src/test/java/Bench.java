@@ -3,14 +3,14 @@ final class Bench {
     private final String title;
     private int wrong = 0;
     private int looked = 0;
-    OperandStacks machine = new OperandStacks();
+    Watched machine = new Watched();
 
     Bench(String title) {
         this.title = title;
     }
 
     void fresh() {
-        machine = new OperandStacks();
+        machine = new Watched();
     }
 
     void due(String what, long got, long want) {
@@ -207,7 +207,7 @@ final class Bench {
             if (i > place) {
                 all.append(' ');
             }
-            OperandStacks m = machine;
+            Watched m = machine;
             all.append(text(m.value(i, 0), m.value(i, 1), m.value(i, 2), m.value(i, 3), depth + 1));
         }
         return all.append(executable == 1 ? "}" : "]").toString();

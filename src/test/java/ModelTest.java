@@ -70,7 +70,7 @@ public final class ModelTest {
         }
     }
 
-    private static String tell(OperandStacks m) {
+    private static String tell(Watched m) {
         StringBuilder s = new StringBuilder();
         for (int which = 0; which < 8; which++) {
             s.append(m.count(which)).append(' ');

@@ -60,7 +60,7 @@ public final class Promise01Test {
     }
 
     private static void apart(Bench b) {
-        OperandStacks first = b.machine;
+        Watched first = b.machine;
         b.fresh();
         b.run("/x 1 def (abc) [1 2] 5 =");
         b.due("another object's operands", first.count(0), 2);

@@ -15,6 +15,7 @@ public final class Promise03RowEdgesTest {
         storing(b);
         sharing(b);
         binding(b);
+        bindingMany(b);
         converting(b);
         writing(b);
         b.end();
@@ -172,6 +173,28 @@ public final class Promise03RowEdgesTest {
         b.leaves("{x} bind /x /add load def bind", "{--add--}");
         // A row that holds itself many times is gone through once, and what lies deeper is still found.
         b.leaves("/p {" + "0 ".repeat(30) + "{{add}}} def 0 1 29 {/p load exch /p load put} for /p load bind 30 get", "{{--add--}}");
+    }
+
+    /** All 600 values of arrays are in use: 586 arrays lie within each other, and the last one that is found has the name. */
+    private static void bindingMany(Bench b) {
+        b.fresh();
+        b.endsHere("/A 200 array def /B 200 array def /C 186 array def");
+        // Value i of the row R becomes its first i + 1 values, executable.
+        b.endsHere("/f {dup R exch 0 exch 1 add getinterval cvx R 3 1 roll put} def");
+        fillWithBeginnings(b, "A", 199);
+        fillWithBeginnings(b, "B", 199);
+        fillWithBeginnings(b, "C", 184);
+        b.endsHere("A 199 B cvx put B 199 C 0 185 getinterval cvx put C 184 C 185 1 getinterval cvx put C 185 /add cvx put");
+        b.due("values of arrays", b.machine.count(5), 600);
+        b.endsHere("C 185 get A cvx bind length C 185 get");
+        b.due("bind of many", b.operands(), "add 200 --add--");
+    }
+
+    private static void fillWithBeginnings(Bench b, String row, int n) {
+        b.endsHere("/R " + row + " def");
+        for (int i = 0; i < n; i += 60) {
+            b.endsHere(i + " 1 " + Math.min(i + 59, n - 1) + " /f load for");
+        }
     }
 
     /** "cvx, cvlit: a name or array is executable, literal (others stay)" */
